@@ -462,7 +462,7 @@ public final class MeterHall {
 
         /** A mantissa of 53 bits moved up by 9 leaves a bit for a sum's carry, and one for the sign. */
         private static final int ROOM_FOR_SUM = 9;
-        /** A remainder of 53 bits moved up by 10 is still a long above 0. */
+        /** A remainder of 53 bits moved up by 10 still stays below the sign. */
         private static final int ROOM_FOR_REMAINDER = 10;
         private static final int LONG_BITS = 63;
 

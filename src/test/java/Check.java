@@ -16,7 +16,9 @@ final class Check {
         try {
             return Long.toString(hall.read(track, form, i));
         } catch (RuntimeException thrown) {
-            return thrown.getClass().getSimpleName();
+            // The class throws with texts of its own; another text is the machine's, which is never to throw in it.
+            boolean own = thrown.getMessage() != null && thrown.getMessage().startsWith("the track ");
+            return (own ? "" : "the machine's ") + thrown.getClass().getSimpleName();
         }
     }
 

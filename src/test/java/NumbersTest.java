@@ -155,15 +155,16 @@ final class NumbersTest {
         Random random = new Random(11);
         MachineHall machine = new MachineHall();
         for (int k = 0; k < 300_000; k++) {
+            MeterHall hall = new MeterHall();
             int form = random.nextInt(4);
             int to = random.nextInt(4);
             long a = SomeBits.of(random, form);
             long b = random.nextInt(4) == 0 ? SomeBits.near(random, form, a) : SomeBits.of(random, form);
             String numbers = form + ", " + a + ", " + b;
-            CHECK.due("turned to " + to + " of " + numbers, HALL.turned(form, to, a), machine.turned(form, to, a));
-            CHECK.due("rest of " + numbers, HALL.rest(form, a, b), machine.rest(form, a, b));
-            CHECK.due("finding() behind it", HALL.finding(), machine.finding());
-            CHECK.due("order of " + numbers, HALL.order(form, a, b), machine.order(form, a, b));
+            CHECK.due("turned to " + to + " of " + numbers, hall.turned(form, to, a), machine.turned(form, to, a));
+            CHECK.due("rest of " + numbers, hall.rest(form, a, b), machine.rest(form, a, b));
+            CHECK.due("finding() behind it", hall.finding(), machine.finding());
+            CHECK.due("order of " + numbers, hall.order(form, a, b), machine.order(form, a, b));
         }
     }
 

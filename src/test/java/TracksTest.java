@@ -7,6 +7,7 @@ final class TracksTest {
         trackMakesRows();
         trackRefusesInOrder();
         trackIsFullForEver();
+        trackIsFullAtJustThreeThousand();
         shareGivesTheSameRow();
         formAndLength();
         writeAndRead();
@@ -61,6 +62,15 @@ final class TracksTest {
         hall.clear();
         CHECK.due("behind clear()", hall.track(2, 2, 1), MeterHall.FULL);
         CHECK.due("told(7)", hall.told(7), 0);
+    }
+
+    private static void trackIsFullAtJustThreeThousand() {
+        MeterHall hall = new MeterHall();
+        for (int k = 0; k < 150; k++) {
+            CHECK.due("track " + k, hall.track(k % 12, 3, 20), 1);
+        }
+        CHECK.due("at 3000 places", hall.track(0, 3, 1), MeterHall.FULL);
+        CHECK.due("what it held is still there", hall.length(0, 3), 20);
     }
 
     private static void shareGivesTheSameRow() {

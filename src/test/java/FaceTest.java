@@ -60,9 +60,6 @@ final class FaceTest {
         }
         List<Method> hidden = new ArrayList<>(List.of(MeterHall.class.getDeclaredMethods()));
         hidden.removeIf(FaceTest::isSeen);
-        for (Class<?> inside : MeterHall.class.getDeclaredClasses()) {
-            hidden.addAll(List.of(inside.getDeclaredMethods()));
-        }
         boolean differ = true;
         for (Method method : hidden) {
             if (face.contains(method.getName())) {

@@ -17,13 +17,17 @@ final class FaceTest {
         "write(int, int, int, long): int", "read(int, int, int): long", "feed(int, int, int, int): int",
         "log(int, int, int, int): int", "rack(int, int): int", "hang(int, int, int, int): int",
         "shown(int, int): long", "sum(int, int): long", "many(int, int): int", "finding(): int", "told(int): int",
-        "clear(): int", "UNKNOWN = -1", "OUTSIDE = -2", "FULL = -4", "NONE = -5", "new()"));
+        "clear(): int", "read throws ClassCastException", "read throws NullPointerException",
+        "read throws ArrayIndexOutOfBoundsException", "UNKNOWN = -1", "OUTSIDE = -2", "FULL = -4", "NONE = -5", "new()"));
 
     public static void main(String[] args) throws IllegalAccessException {
         Set<String> seen = new TreeSet<>();
         for (Method method : MeterHall.class.getDeclaredMethods()) {
             if (isSeen(method)) {
                 seen.add(method.getName() + types(method.getParameterTypes()) + ": " + method.getReturnType());
+                for (Class<?> thrown : method.getExceptionTypes()) {
+                    seen.add(method.getName() + " throws " + thrown.getSimpleName());
+                }
             }
         }
         for (Field field : MeterHall.class.getDeclaredFields()) {

@@ -3,7 +3,6 @@ final class Halls {
     /** What the METERS 0 .. 3 of a furnished hall have as VALUE, each of the FORM of its number. */
     static final long[] VALUES = {-7, 1L << 40, Check.single(3.5f), Check.real(-1e20)};
     static final long[] LIMITS = {1000, Long.MAX_VALUE, Check.single(Float.MAX_VALUE), Check.real(Double.MAX_VALUE)};
-    static final int NO_METER = 4, NO_RACK = 5;
     static final int SINGLES = 0, DOUBLES = 1, SHARED = 2, EMPTY = 3;
     static final int PLACES = 2, RACK_PLACES = 3;
 

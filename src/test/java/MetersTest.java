@@ -185,6 +185,7 @@ final class MetersTest {
         dueSingle(1e9f, 16777216f, 16777216f, Float.MIN_VALUE);
         dueSingle(1e9f, 0x1.000002p0f, 1f, Math.nextUp(0x1p-24f));
         dueSingle(1f, 3 * Float.MIN_VALUE, Float.MIN_VALUE, 2 * Float.MIN_VALUE);
+        dueSingle(1f, -Float.MIN_VALUE, Float.MIN_VALUE, -2 * Float.MIN_VALUE);
         dueSingle(1f, Float.MIN_NORMAL, Math.nextDown(Float.MIN_NORMAL), Float.MIN_VALUE);
         dueSingle(1f, Math.nextDown(Float.MIN_NORMAL), Float.MIN_NORMAL, -Float.MIN_VALUE);
         dueReal(1e300, 0x1.0000000000001p54, 0x1p54, 3);
@@ -194,6 +195,7 @@ final class MetersTest {
         dueReal(1e300, 1, 1, -0x1p-60);
         dueReal(1e300, 0.1 + 0.2, 0.1, 0.2);
         dueReal(1, 3 * Double.MIN_VALUE, Double.MIN_VALUE, 2 * Double.MIN_VALUE);
+        dueReal(1, -Double.MIN_VALUE, Double.MIN_VALUE, -2 * Double.MIN_VALUE);
         dueReal(1, Math.nextDown(Double.MIN_NORMAL), Double.MIN_NORMAL, -Double.MIN_VALUE);
     }
 

@@ -18,6 +18,7 @@ final class RandomRunsTest {
     }
 
     public static void main(String[] args) {
+        CHECK.sentence("all promises, in runs of " + CALLS + " calls");
         for (int seed = 0; seed < RUNS; seed++) {
             RandomRunsTest run = new RandomRunsTest(seed);
             for (int k = 0; k < CALLS; k++) {
